@@ -37,7 +37,8 @@ public final class ApiCompare {
 
     private static final int METHOD_NAMES = 3;
     private static final int PARAMETERS = 4;
-    private static final int LAST_PARAMETER = 3;
+    private static final int NONE = 0;
+    private static final int DOUBLE = 3;
     private static final int METHOD_FLAGS = 16;
     private static final int METHOD_SPOTS = VERSIONS * TYPES;
     private static final int SIGNS = 16;
@@ -671,11 +672,19 @@ public final class ApiCompare {
             return DONE;
         }
 
+        /** NONE is taken by NONE alone; each other argument by its own kind first, then by the wider ones. */
         private int bindCall(Use use, Offer offer) {
-            int place = findTaking(use, offer);
-            if (place == NOTHING) {
-                return NO_MEMBER;
+            int last = use.argument == NONE ? NONE : DOUBLE;
+            for (int p = use.argument; p <= last; p++) {
+                int place = offer.findMethod(use.type, use.name, p, ANY);
+                if (place != NOTHING && (offer.methodFlags[place] & HIDDEN) == 0) {
+                    return bindMethod(use, offer, place);
+                }
             }
+            return NO_MEMBER;
+        }
+
+        private int bindMethod(Use use, Offer offer, int place) {
             isStatic = (offer.methodFlags[place] & STATIC) != 0;
             if (use.kind == CALL_STATIC && !isStatic) {
                 return FIXED;
@@ -684,18 +693,6 @@ public final class ApiCompare {
             answer = offer.methodAnswer[place];
             home = place / METHODS_OF_TYPE;
             return DONE;
-        }
-
-        /** NONE is taken by NONE alone; each other argument by its own kind first, then by the wider ones. */
-        private static int findTaking(Use use, Offer offer) {
-            int last = use.argument == 0 ? 0 : LAST_PARAMETER;
-            for (int p = use.argument; p <= last; p++) {
-                int place = offer.findMethod(use.type, use.name, p, ANY);
-                if (place != NOTHING && (offer.methodFlags[place] & HIDDEN) == 0) {
-                    return place;
-                }
-            }
-            return NOTHING;
         }
 
         private int bindOverride(Use use, Offer offer) {

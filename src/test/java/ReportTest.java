@@ -8,10 +8,12 @@ public final class ReportTest {
         promises13To15();
         promise13OnlyThoseThatCompile();
         promise14ValuesDoNotBreak();
+        promise15SixteenUses();
         promise16There();
         promise16Type();
         promise16Fields();
         promise16Methods();
+        promise16OtherTypesDoNotCount();
         promise17Under();
         check.end();
     }
@@ -85,6 +87,20 @@ public final class ReportTest {
         check.due("13 three of five", x.share(), 0.6);
     }
 
+    private static void promise15SixteenUses() {
+        ApiCompare x = Check.withClass();
+        x.field(0, 0, 0, 0);
+        for (int i = 0; i < 16; i++) {
+            check.due("14 broken uses", x.breaking(), i);
+            check.due("15 not yet", x.broken(i), REFUSED);
+            x.use(Check.READ, 0, 0, 0);
+            check.due("15 the last use", x.broken(i), i);
+        }
+        check.due("14 sixteen", x.breaking(), 16);
+        check.due("15 no seventeenth", x.broken(16), REFUSED);
+        check.due("13 sixteen", x.share(), 0.0);
+    }
+
     private static void promise16There() {
         ApiCompare x = Check.withClass();
         x.type(1, 1, 0, 6, 0);
@@ -106,6 +122,8 @@ public final class ReportTest {
         x.copy();
         x.type(1, 3, ApiCompare.FINAL | ApiCompare.HIDDEN, 6, 0);
         check.due("16 flags count one", x.differ(3), 1);
+        x.type(1, 2, INTERFACE | ApiCompare.ABSTRACT, 6, 0);
+        check.due("16 flags are looked at as told", x.differ(2), 1);
         x.type(1, 3, 0, 0, 0);
         check.due("16 the super counts one", x.differ(3), 1);
         x.type(1, 3, 0, 6, 1 << 1 | 1 << 2);
@@ -160,6 +178,23 @@ public final class ReportTest {
         x.cut(0, 0, 0, Check.INT);
         x.cut(1, 0, 0, Check.INT);
         check.due("16 methods gone from both", x.differ(0), 2);
+    }
+
+    private static void promise16OtherTypesDoNotCount() {
+        ApiCompare x = new ApiCompare();
+        for (int type = 0; type < 6; type++) {
+            x.type(0, type, 0, 6, 0);
+        }
+        x.copy();
+        for (int name = 0; name < 4; name++) {
+            x.field(Check.fieldSpot(1, 3, Check.INT_FIELD), name, 0, 0);
+        }
+        for (int i = 0; i < 12; i++) {
+            x.method(Check.methodSpot(1, 3), i / 4, Check.sign(i % 4, Check.NONE), 0);
+        }
+        for (int type = 0; type < 6; type++) {
+            check.due("16 type " + type, x.differ(type), type == 3 ? 16 : 0);
+        }
     }
 
     private static void promise17Under() {
