@@ -15,9 +15,11 @@ public final class PromiseEdgeTest {
         promise4VIsLookedAtForConstantAlone();
         promise6OnlyItsOwn();
         promise7EmptyAndFull();
+        promise7EachPart();
         promise8NumbersAndFull();
         promise8TypeNeedNotBeThere();
         promise11ErrorsAndBindings();
+        promise11Values();
         promise12ZeroIfNotBoundToAValue();
         promise13NoneCompiles();
         promise14OnlyWhatCompilesCanBreak();
@@ -193,6 +195,31 @@ public final class PromiseEdgeTest {
         check.due("7 all methods", x.count(1, 2), 72);
     }
 
+    /** "all that the version 0 is": each part of the first and of the last type, field and method. */
+    private static void promise7EachPart() {
+        for (int type = 2; type < 6; type++) {
+            ApiCompare x = new ApiCompare();
+            x.type(0, 0, INTERFACE, NO_SUPER, 0);
+            x.type(0, 1, 0, NO_SUPER, 0);
+            x.type(0, type, HIDDEN, 1, 1 << 0);
+            for (int name = 0; name < 4; name++) {
+                x.field(Check.fieldSpot(0, type, Check.DOUBLE_FIELD), name, Check.FIXED_VALUE, 9 + name);
+                x.use(Check.READ, type, name, 0);
+            }
+            for (int i = 0; i < 12; i++) {
+                x.method(Check.methodSpot(0, type), i / 4, Check.sign(i % 4, Check.LONG), ApiCompare.STATIC);
+            }
+            x.copy();
+            check.due("7 the same, " + type, x.differ(type), 0);
+            check.due("7 its super, " + type, x.under(1, type, 1), true);
+            check.due("7 its interface, " + type, x.under(1, type, 0), true);
+            x.type(1, type, 0, 1, 1 << 0);
+            for (int name = 0; name < 4; name++) {
+                check.due("7 kind and value of " + name, x.value(name, 1), (9 + name) * 0.5);
+            }
+        }
+    }
+
     /** "16 uses: FULL. Its number." A refused one takes no number. */
     private static void promise8NumbersAndFull() {
         for (int kind = 0; kind < 7; kind++) {
@@ -236,6 +263,29 @@ public final class PromiseEdgeTest {
         check.due("11 the same binding", x.recompile(0), 0);
         x.type(0, 0, ApiCompare.FINAL, NO_SUPER, 0);
         check.due("11 the one of version 0 alone", x.recompile(0), ApiCompare.FIXED);
+    }
+
+    /** "(BINDINGS to values are the same if the values are, of the same kind.)" */
+    private static void promise11Values() {
+        int[] numbers = {0, 1, Integer.MIN_VALUE, Integer.MAX_VALUE};
+        for (int old : numbers) {
+            for (int now : numbers) {
+                ApiCompare x = Check.withClass();
+                x.copy();
+                x.use(Check.READ, 0, 0, 0);
+                x.field(0, 0, Check.FIXED_VALUE, old);
+                x.field(12, 0, Check.FIXED_VALUE, now);
+                check.due("11 INT " + old + " and " + now, x.recompile(0), old == now ? 0 : 1);
+                x.field(13, 0, Check.FIXED_VALUE, now);
+                check.due("11 INT " + old + " and DOUBLE " + now, x.recompile(0), 1);
+                x.field(1, 0, Check.FIXED_VALUE, old);
+                check.due("11 DOUBLE " + old + " and " + now, x.recompile(0), old == now ? 0 : 1);
+                x.field(13, 0, Check.STATIC_FINAL, now);
+                check.due("11 DOUBLE " + old + " and no value", x.recompile(0), 1);
+                x.field(1, 0, Check.STATIC_FINAL, old);
+                check.due("11 no value in both", x.recompile(0), 0);
+            }
+        }
     }
 
     /** "0.0 if it is not bound to a value": each kind of use but a READ, though a READ was asked just before. */

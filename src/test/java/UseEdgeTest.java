@@ -127,7 +127,10 @@ public final class UseEdgeTest {
             x.method(0, 0, Check.sign(Check.NONE, Check.LONG), STATIC);
             x.method(0, 0, Check.sign(Check.INT, Check.LONG), STATIC);
             check.due("none that takes a LONG, kind " + kind, x.compile(0, 0), NO_MEMBER);
-            x.method(0, 1, Check.sign(Check.LONG, Check.LONG), STATIC);
+            for (int parameter = 0; parameter < 4; parameter++) {
+                x.method(0, 1, Check.sign(parameter, Check.LONG), STATIC);
+                x.method(0, 2, Check.sign(parameter, Check.LONG), STATIC);
+            }
             check.due("none of the name, kind " + kind, x.compile(0, 0), NO_MEMBER);
             x.method(0, 0, Check.sign(Check.LONG, Check.LONG), STATIC | HIDDEN);
             x.method(0, 0, Check.sign(Check.DOUBLE, Check.LONG), STATIC | HIDDEN);
